@@ -6,6 +6,7 @@ final class KeepTest {
     public static void main(String[] args) {
         count();
         image();
+        notes();
         ofNoDinner();
         DUE.close();
     }
@@ -82,6 +83,21 @@ final class KeepTest {
         due("is as made", b.back(0), 1);
         due("the rule in force", b.count(4), 0);
         due("the note", b.ruled(0), 0);
+    }
+
+    private static void notes() {
+        SpokenBite b = new SpokenBite();
+        Due.dinnerOf(b, PLAIN);
+        b.note(1, 0, 0, 1);
+        due("so without a rule", b.ruled(0), 1);
+        b.image(2);
+        b.note(-1, 0, 0, 0);
+        b.note(0, 1, 1, 0);
+        b.note(0, 1, 1, 1);
+        due("not so", b.ruled(0), 0);
+        b.back(2);
+        due("all of the note is back", b.ruled(0), 1);
+        due("one note", b.count(10), 1);
     }
 
     private static void ofNoDinner() {

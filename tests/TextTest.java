@@ -209,6 +209,8 @@ final class TextTest {
         bad("", 0, 0);
         bad("  ", 2, 0);
         bad("eats 1", 0, 0);
+        bad("eatz 1", 0, 0);
+        bad("eata 1", 0, 0);
         bad("dinner 3", 0, 0);
         bad("eat ", 4, 0);
         bad("eat;", 3, 0);
@@ -309,6 +311,10 @@ final class TextTest {
         eaten("eat 8/2/4-1+dish/2", 2);
         eaten("eat 7%4*2-6+dish%2", 1);
         eaten("eat 5/0+5%0+dish%2", 1);
+        eaten("eat 5/0", -1);
+        eaten("eat 5%0", -1);
+        eaten("eat 9-5-3+dish-1-1", 2);
+        eaten("eat 1-5+4-1", -1);
         eaten("eat 2/dish*dish-1", 1);
         eaten("eat 0-7/2+3+dish%2", 1);
         eaten("eat 0-7%4+3+dish%2", 1);
@@ -336,5 +342,30 @@ final class TextTest {
         eaten("eat 1 if not [1=1 or 1=1]", -1);
         eaten("eat 1 if not not dish=2 and not dish=1", 2);
         eaten("eat 1 if 1=2 and 1=2 or 1=1", 1);
+        eaten("eat 1 if 1=2 or 1=2 or dish=2", 2);
+        eaten("eat 1 if dish=2 or 1=2 or 1=2", 2);
+        eaten("eat 1 if dish=2 or 1=1 and 1=2 or 1=2 and 1=1", 2);
+        SpokenBite b = new SpokenBite();
+        Due.dinnerOf(b, "dinner 2;dish 6 1;dish 6 2;dish 6 3;guest 0;guest 0;guest 0;guest 0;clash 5 6");
+        b.tell(0, 3);
+        b.tell(1, 3);
+        b.tell(2, 2);
+        b.tell(3, 2);
+        b.tell(3, 5);
+        Due.ruleOf(b, "eat known if top=0;eat 1 if top=6 and known=3");
+        b.force(0);
+        due("2 is known by two, 3 by two: the least", b.minute(), 2);
+        due("known by all now", b.minute(), 2);
+        b.undo();
+        b.undo();
+        b.tell(3, 6);
+        b.tell(3, 3);
+        Due.ruleOf(b, "eat known-2");
+        b.force(1);
+        due("3 is known by three", b.minute(), 4);
+        b.undo();
+        b.offer(0);
+        b.minute();
+        due("who has left counts not", b.minute() & 6, 0);
     }
 }

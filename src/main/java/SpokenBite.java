@@ -1289,23 +1289,19 @@ public final class SpokenBite {
                 } else {
                     reader.skipWord();
                     readSum();
-                    rule.put(readIf() ? Rule.ANSWER_IF : Rule.ANSWER);
+                    reader.sign();
+                    boolean hasTest = reader.fault == 0 && reader.wordAmong("if ") != NONE;
+                    if (hasTest) {
+                        reader.skipWord();
+                        readTest(0);
+                    }
+                    rule.put(hasTest ? Rule.ANSWER_IF : Rule.ANSWER);
                 }
                 if (!reader.goesOn()) {
                     break;
                 }
             }
             return reader.fault;
-        }
-
-        private boolean readIf() {
-            reader.sign();
-            if (reader.fault != 0 || reader.wordAmong("if ") == NONE) {
-                return false;
-            }
-            reader.skipWord();
-            readTest(0);
-            return true;
         }
 
         /** An 'or' waits till the PART behind it has ended, as 'and' binds closer. */
