@@ -203,7 +203,13 @@ final class ModelTest {
 
     /** Mostly a number that is allowed. */
     private int number(int least, int most) {
-        return chance(96) ? least + draw(most - least + 1) : chance(50) ? least - 1 - draw(2) : most + 1 + draw(2);
+        if (chance(96)) {
+            return least + draw(most - least + 1);
+        }
+        if (chance(20)) {
+            return chance(50) ? Integer.MIN_VALUE : chance(50) ? Integer.MAX_VALUE : random.nextInt();
+        }
+        return chance(50) ? least - 1 - draw(2) : most + 1 + draw(2);
     }
 
     private void oneCall() {
