@@ -541,6 +541,17 @@ final class ActEdgeTest {
         b.minute();
         due("and stay", b.count(7), 31);
         due("ACTS", b.count(11), 12);
+        for (int guest = 0; guest < 5; guest++) {
+            SpokenBite all = at("dinner 1" + ";guest 0".repeat(5) + ";clash 6 7");
+            for (int secret = 0; secret < 8; secret++) {
+                all.tell(guest, secret);
+                all.tell((guest + 1) % 5, secret % 6);
+            }
+            all.minute();
+            due("KNEW all", all.fetch(guest), 255);
+            due("KNOWS nothing", all.guest(guest, 1), 0);
+            due("the other one KNOWS as before", all.count(8), 6);
+        }
     }
 
     private static void fetchRefused() {

@@ -14,6 +14,7 @@ final class AskEdgeTest {
         nothingChanges();
         aheadLimits();
         aheadRefused();
+        goesOnByTheRule();
         saidLimits();
         quietLimits();
         knowing();
@@ -33,6 +34,8 @@ final class AskEdgeTest {
         restsLimits();
         restsByEars();
         restsOfWho();
+        restsOfNone();
+        restsBehindOtherTexts();
         crumbsLimits();
         crumbsOrder();
         loudestLimits();
@@ -45,16 +48,14 @@ final class AskEdgeTest {
         DUE.due(call, got, want);
     }
 
-    private static SpokenBite at(String text) {
+    /** With RULES, the first of them IN FORCE. */
+    private static SpokenBite at(String text, String... rules) {
         SpokenBite b = new SpokenBite();
         due("dinner of '" + text + "' is one", Due.dinnerOf(b, text) >= 0 ? 1 : 0, 1);
-        return b;
-    }
-
-    private static SpokenBite at(String text, String rule) {
-        SpokenBite b = at(text);
-        due("rule of '" + rule + "'", Due.ruleOf(b, rule), 0);
-        b.force(0);
+        for (int i = 0; i < rules.length; i++) {
+            due("rule of '" + rules[i] + "'", Due.ruleOf(b, rules[i]), i);
+            b.force(0);
+        }
         return b;
     }
 
@@ -128,6 +129,29 @@ final class AskEdgeTest {
         }
         due("the last GUEST", Twin.rich().ahead(2, 0, 0), 3);
         due("the first GUEST", Twin.rich().ahead(0, 0, 0), 3);
+    }
+
+    /** "MINUTES go on by the RULE IN FORCE": also behind MINUTES in which nothing is eaten. */
+    private static void goesOnByTheRule() {
+        SpokenBite leaves = at("dinner 1;dish 5 0;guest 0;guest 0;clash 6 7", "eat 1 if sitting=1");
+        leaves.tell(0, 6);
+        leaves.tell(0, 7);
+        due("one LEAVES in the first MINUTE", leaves.ahead(0, 1, 2), 1);
+        due("so that he eats in the second", leaves.ahead(0, 2, 2), 0);
+        due("and that is heard", leaves.leftOut(2, 1), 3);
+        SpokenBite throat = at("dinner 2;dish 5 0;dish 5 1;guest 0", "eat 1 if throat=0 and left=1");
+        throat.offer(0);
+        throat.minute();
+        due("something is in the throat", throat.ahead(0, 1, 2), 2);
+        due("nothing is", throat.ahead(0, 2, 2), 0);
+        SpokenBite waits = at("dinner 1;dish 5 0;dish 5 1;guest 0", "eat minute-1 if minute<3");
+        due("waits", waits.ahead(0, 2, 0), 0);
+        due("eats", waits.ahead(0, 3, 0), 1);
+        due("no more", waits.ahead(0, 100, 0), 1);
+        SpokenBite noted = at("dinner 1;dish 5 0;guest 0", "eat 0", "eat 1 if minute=40");
+        noted.note(40, 0, 0, 0);
+        noted.note(41, 0, 0, 1);
+        due("waits to be noted", noted.ruled(1), 1);
     }
 
     /** "SAID of a SECRET: the first MINUTE, this one the first, of 100, in which anything SPEAKS that SAYS it." */
@@ -520,6 +544,13 @@ final class AskEdgeTest {
         due("the last DISH", eight.leftOut(8, 2), 7);
         due("in 7 MINUTES none", eight.leftOut(7, 2), -2);
         due("nothing is left out for long", eight.count(6), 255);
+        SpokenBite eaten = at("dinner 1;dish 5 0;dish 0 1;guest 0;clash 6 7");
+        eaten.tell(0, 6);
+        eaten.tell(0, 7);
+        eaten.minute();
+        eaten.fetch(0);
+        due("what is EATEN does not come back by it", eaten.leftOut(5, 2), -2);
+        due("so nothing is known", eaten.leftOut(5, 1), 0);
     }
 
     /** "RESTS of two GUESTS for n MINUTES (1 to 20)": "1, 2: EARS of the first (-2: there is none). NONE without these (unlike)." */
@@ -588,6 +619,29 @@ final class AskEdgeTest {
         }
     }
 
+    /** "(-2: there is none)": to EARS of 0 the best answer is 3, to 3 and 6 it is 9, to 9 and 12 it is 0. */
+    private static void restsOfNone() {
+        // EARS 0 LEAVE with three by DISH 2, 3 and 6 by DISH 3, 9 and 12 by DISH 4; he eats no more as soon as one has LEFT
+        SpokenBite b = at("dinner 1;dish 2 5;dish 1 2;dish 7 4;dish 13 3;dish 12 2;guest 0;guest 0;clash 3 2;clash 4 3;clash 5 4",
+            "eat sitting-1");
+        due("how many", b.rests(0, 1, 6, 0), 0);
+        due("there is none", b.rests(0, 1, 6, 1), -2);
+        due("there is none", b.rests(0, 1, 6, 2), -2);
+    }
+
+    /** "all else as it is": of the DINNER there is, whatever text was refused or gone back from. */
+    private static void restsBehindOtherTexts() {
+        SpokenBite b = at("dinner 1;dish 5 0;guest 20;guest 20");
+        b.image(0);
+        due("EARS of 0 or 3", b.rests(0, 1, 1, 0), 4);
+        due("refused", Due.dinnerOf(b, "dinner 2;dish 9 0;guest 1;x"), Due.faulty(26, 0));
+        due("EARS of 0 or 3 still", b.rests(0, 1, 1, 0), 4);
+        due("another one", Due.dinnerOf(b, "dinner 2;dish 9 0;guest 1;guest 1"), 1);
+        due("EARS of 0 to 9", b.rests(0, 1, 1, 0), 16);
+        b.back(0);
+        due("EARS of 0 or 3 again", b.rests(0, 1, 1, 0), 4);
+    }
+
     /** "CRUMBS (0 to 9999) among GUESTS by how many SECRETS they KNOW": "NONE without these." */
     private static void crumbsLimits() {
         SpokenBite b = at("dinner 1;guest 0;guest 0;guest 0;clash 6 7");
@@ -599,8 +653,11 @@ final class AskEdgeTest {
         due("1", b.crumbs(1, 1), 1);
         due("9999", b.crumbs(9999, 1), 9999);
         due("who KNOWS none", b.crumbs(9999, 0), 0);
-        for (int much : new int[] {-1, 10000, LEAST, MOST}) {
-            due("crumbs " + much, b.crumbs(much, 1), -1);
+        for (int much : new int[] {-1, -2, 10000, LEAST, MOST}) {
+            for (int guest = 0; guest < 3; guest++) {
+                due("crumbs " + much, b.crumbs(much, guest), -1);
+                due("crumbs " + much + ", if nobody KNOWS any", at("dinner 1;guest 0;guest 0;guest 0").crumbs(much, guest), -1);
+            }
         }
         for (int guest : new int[] {-1, 3, 5, LEAST, MOST}) {
             due("crumbs of " + guest, b.crumbs(5, guest), -1);

@@ -13,6 +13,7 @@ final class KeepEdgeTest {
         imageIsNoAct();
         backRefused();
         backBringsAll();
+        backBringsEachNote();
         theseStay();
         nothingCanBeUndone();
         madeAnew();
@@ -153,6 +154,30 @@ final class KeepEdgeTest {
         due("the first", b.ruled(1), -1);
         due("DISH 1 sounds 7 in PLACE 2, the others 6", b.minute(), 2);
         due("what was OFFERED is eaten", b.dish(4, 2), 1);
+    }
+
+    /** All of a NOTE: which MINUTE, who, what, and whether they KNEW it. */
+    private static void backBringsEachNote() {
+        // DISH 1 is heard in MINUTE 1 by GUEST 1 alone
+        int[][] notes = {{1, 1, 3, 0}, {2, 1, 3, 1}, {60, 0, 3, 0}, {60, 1, 4, 0}};
+        int[][] others = {{2, 1, 3, 0}, {1, 1, 3, 1}, {60, 1, 3, 0}, {60, 1, 3, 0}};
+        for (int i = 0; i < notes.length; i++) {
+            for (int bad = 0; bad < 2; bad++) {
+                SpokenBite b = new SpokenBite();
+                Due.dinnerOf(b, "dinner 1;dish 0 0;dish 5 3;guest 6;guest 5");
+                int[] kept = bad == 0 ? notes[i] : others[i];
+                int[] other = bad == 0 ? others[i] : notes[i];
+                b.note(kept[0], kept[1], kept[2], kept[3]);
+                due("as noted", b.ruled(0), 1 - bad);
+                b.image(2);
+                b.note(-1, 0, 0, 0);
+                b.note(other[0], other[1], other[2], other[3]);
+                due("as noted then", b.ruled(0), bad);
+                b.back(2);
+                due("as noted first", b.ruled(0), 1 - bad);
+                due("one NOTE", b.count(10), 1);
+            }
+        }
     }
 
     /** "(these stay ..)": the TAPE, the RULES and the IMAGES. */

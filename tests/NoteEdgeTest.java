@@ -22,6 +22,8 @@ final class NoteEdgeTest {
         hiccupsMinutes();
         hiccupsBelow();
         hiccupsPlaces();
+        hiccupsOutOfThatPlace();
+        hiccupsOntoTheTable();
         hiccupsManyTimes();
         hiccupsKeepX();
         DUE.close();
@@ -105,6 +107,17 @@ final class NoteEdgeTest {
         due("again", b.note(-1, 0, 0, 1), 0);
         due("no ACT", b.count(11), 5);
         due("the first one again", b.note(0, 0, 0, 0), 1);
+        SpokenBite never = at("dinner 1;dish 5 0;guest 0");
+        never.note(0, 0, 0, 1);
+        due("never so", never.ruled(0), 0);
+        never.note(-1, 0, 0, 0);
+        due("none is left of it", never.ruled(0), 1);
+        never.note(9, 0, 0, 1);
+        never.note(5, 0, 0, 0);
+        due("not so", never.ruled(0), 0);
+        never.note(-1, 0, 0, 0);
+        never.note(9, 0, 0, 1);
+        due("nor of the second", never.ruled(0), 1);
         refused("none of none", Twin::bare, t -> t.note(-1, 0, 0, 0), 0);
         refused("without a DINNER", SpokenBite::new, t -> t.note(-1, 0, 0, 0), 0);
     }
@@ -253,6 +266,18 @@ final class NoteEdgeTest {
         SpokenBite last = at("dinner 1;dish 5 0;guest 6;guest 6;guest 6;guest 6;guest 5", "eat 0");
         due("the last GUEST", last.look(1, 0), 4);
         due("each alone", last.look(1, 1), 1);
+        for (int guest = 0; guest < 5; guest++) {
+            // one GUEST alone hears the DISH, whichever SECRET it SAYS
+            StringBuilder ears = new StringBuilder();
+            for (int other = 0; other < 5; other++) {
+                ears.append(other == guest ? ";guest 5" : ";guest 6");
+            }
+            for (int secret = 0; secret < 8; secret++) {
+                SpokenBite alone = at("dinner 1;dish 5 " + secret + ears, "eat 0");
+                due("GUEST " + guest + " by SECRET " + secret, alone.look(1, 0), guest);
+                due("each alone", alone.look(1, 1), 1);
+            }
+        }
         SpokenBite most = at("dinner 1;dish 9 0;dish 5 1;guest 9;guest 5", "eat dish", "eat 0", "eat 0", "eat 0");
         // GUEST 0: 0, nothing (1 is not heard), and nothing thrice: four alike; GUEST 1: 0, 1, and nothing thrice
         due("the most alike are fewest", most.look(1, 0), 1);
@@ -327,6 +352,11 @@ final class NoteEdgeTest {
         return (x * 1103515245L + 12345L) % 2147483648L;
     }
 
+    /** Numbers from all over, so that all DRAWS are among those that follow. */
+    private static int seedOf(int i) {
+        return (int) (i * 1597334677L % 2147483648L);
+    }
+
     private static int drawOf(long x) {
         return (int) (x / 65536);
     }
@@ -352,7 +382,7 @@ final class NoteEdgeTest {
         SpokenBite b = swallowed(2);
         int below = 0;
         for (int seed = 0; seed < 60; seed++) {
-            int x = (int) (seed * 35791394L);
+            int x = seedOf(seed);
             b.seed(x);
             long first = next(x);
             int drawn = drawOf(first) % 100;
@@ -398,12 +428,59 @@ final class NoteEdgeTest {
         for (int deep = 1; deep <= 6; deep++) {
             SpokenBite b = swallowed(deep);
             for (int seed = 0; seed < 20; seed++) {
-                b.seed(seed * 999331);
+                int x = seedOf(seed);
+                b.seed(x);
                 int n = 1 + seed % 8;
-                due("DEEP " + deep + ", seed " + seed, b.hiccups(1, n, 100, 0), staysIn(deep, seed * 999331, 1, n, 100));
-                due("DEEP " + deep + ", seed " + seed, b.hiccups(1, n, 50, 0), staysIn(deep, seed * 999331, 1, n, 50));
+                due("DEEP " + deep + ", seed " + x, b.hiccups(1, n, 100, 0), staysIn(deep, x, 1, n, 100));
+                due("DEEP " + deep + ", seed " + x, b.hiccups(1, n, 50, 0), staysIn(deep, x, 1, n, 50));
             }
         }
+    }
+
+    /** "a DISH in that PLACE": it alone is in the throat no more. */
+    private static void hiccupsOutOfThatPlace() {
+        // DISHES 0 to 4 lie in PLACES 5 to 1 and sound alike, he eats no more: GUEST 0 hears all that are there
+        SpokenBite b = at("dinner 6;dish 15 0;dish 14 1;dish 13 2;dish 12 3;dish 11 4;guest 0;clash 6 7", "eat 0");
+        b.tell(0, 6);
+        b.tell(0, 7);
+        for (int i = 0; i < 5; i++) {
+            b.minute();
+        }
+        b.fetch(0);
+        b.force(0);
+        due("all five without", b.hiccups(1, 1, 0, 1), 5);
+        int[] seen = new int[6];
+        for (int seed = 0; seed < 60; seed++) {
+            int x = seedOf(seed);
+            b.seed(x);
+            int place = drawOf(next(next(x))) % 6;
+            seen[place]++;
+            due("without PLACE " + place, b.hiccups(1, 1, 100, 1), place == 0 ? 5 : 4);
+        }
+        for (int place = 0; place < 6; place++) {
+            due("PLACE " + place + " was drawn", seen[place] > 0 ? 1 : 0, 1);
+        }
+    }
+
+    /** ".. is on the table again": with what is there. */
+    private static void hiccupsOntoTheTable() {
+        // DISH 1 lies in PLACE 1, DISHES 0 and 2 on the table: it is eaten if there are three, and is as loud as 5 again
+        SpokenBite b = at("dinner 2;dish 0 0;dish 5 1;dish 0 2;guest 5;clash 6 7", "eat 1 if left=3 and dish=1");
+        b.tell(0, 6);
+        b.tell(0, 7);
+        b.offer(1);
+        b.minute();
+        b.fetch(0);
+        b.force(0);
+        int hits = 0;
+        for (int seed = 0; seed < 20; seed++) {
+            int x = seedOf(seed);
+            b.seed(x);
+            int place = drawOf(next(next(x))) % 2;
+            hits += place;
+            due("seed " + x, b.hiccups(1, 1, 100, 1), place);
+        }
+        due("both were seen", hits > 2 && hits < 18 ? 1 : 0, 1);
     }
 
     /** "how many GUESTS sit at the end; how much all KNOW then, all together": of m dinners, the DRAWS going on. */
@@ -411,8 +488,9 @@ final class NoteEdgeTest {
         for (int m = 1; m <= 10; m++) {
             SpokenBite b = swallowed(4);
             for (int p = 0; p <= 100; p += 20) {
-                b.seed(77 * m + p);
-                int stays = staysIn(4, 77 * m + p, m, 3, p);
+                int x = seedOf(77 * m + p);
+                b.seed(x);
+                int stays = staysIn(4, x, m, 3, p);
                 due("how many sit, " + m + " times", b.hiccups(m, 3, p, 0), stays);
                 due("how much all KNOW, " + m + " times", b.hiccups(m, 3, p, 1), 2 * m - stays);
             }

@@ -109,6 +109,12 @@ final class RuleEdgeTest {
             due("no RULE more", b.count(3), 3);
             due("behind it another one", Due.ruleOf(b, "eat 7"), 3);
         }
+        SpokenBite again = new SpokenBite();
+        Due.dinnerOf(again, "dinner 1;dish 1 1;dish 2 2");
+        due("refused at its end", Due.ruleOf(again, "eat dish;eat dish if minute=1;eat"), Due.faulty(33, 0));
+        due("then one that is", Due.ruleOf(again, "eat 2-dish"), 0);
+        again.force(0);
+        due("nothing of the refused one is in it", again.ahead(0, 1, 2), 2);
     }
 
     /** "texts likewise": at most 400 bytes. */
@@ -248,6 +254,9 @@ final class RuleEdgeTest {
         good("eat 1 if [[1=1]and[1=1]]or not[1=1]");
         good("eat 1 if not not 1=1");
         bad("eat 1 if 1", 10, 0);
+        bad("eat 1 if 1 2", 11, 0);
+        bad("eat 1 if dish loud", 14, 0);
+        bad("eat 1 if 1 dish and 1=1", 11, 0);
         bad("eat 1 if not", 12, 0);
         bad("eat 1 if not 1", 14, 0);
         bad("eat 1 if and 1=1", 9, 0);
@@ -476,6 +485,17 @@ final class RuleEdgeTest {
                 }
             }
         }
+        String[] so = {"1<2", "1<=2", "1=1", "2>=1", "2>1", "not 1=2", "[1<2]"};
+        String[] notSo = {"2<1", "2<=1", "1=2", "1>=2", "1>2", "not 1=1", "[2<1]"};
+        for (int i = 0; i < so.length; i++) {
+            for (int j = 0; j < so.length; j++) {
+                holds(so[i] + " and " + so[j], true);
+                holds(so[i] + " and " + notSo[j], false);
+                holds(notSo[i] + " or " + so[j], true);
+                holds(notSo[i] + " or " + notSo[j], false);
+                holds("not [" + so[i] + " and " + so[j] + "]", false);
+            }
+        }
         holds("[".repeat(10) + "1=1" + "]".repeat(10), true);
         holds("not ".repeat(10) + "1=1", true);
         holds("not ".repeat(9) + "1=1", false);
@@ -577,6 +597,14 @@ final class RuleEdgeTest {
         b.offer(1);
         b.minute();
         ofDish(b, 0, "clashes", 2);
+        for (int secret = 0; secret < 8; secret++) {
+            SpokenBite each = new SpokenBite();
+            int other = (secret + 3) % 8;
+            Due.dinnerOf(each, "dinner 1;dish 0 " + secret + ";guest 0;clash " + secret + " " + other);
+            ofDish(each, 0, "clashes", 0);
+            each.tell(0, other);
+            ofDish(each, 0, "clashes", 1);
+        }
     }
 
     /** "left (how many DISHES are on the table)": 8 to 1. */

@@ -21,7 +21,8 @@ final class Twin {
     static final String RICH_TEXT =
         "dinner 3;dish 5 0;dish 9 1;dish 7 2;dish 3 3;dish 6 4;guest 4;guest 8;guest 2;clash 0 1;clash 5 6";
 
-    private static final List<Look> LOOKS = List.of(Twin::all, Twin::past, Twin::images, Twin::tape, Twin::rules);
+    private static final List<Look> LOOKS =
+        List.of(Twin::all, Twin::asked, Twin::past, Twin::images, Twin::tape, Twin::rules);
 
     private Twin() { }
 
@@ -87,6 +88,17 @@ final class Twin {
             seen.append(b.clashes(i)).append(' ').append(b.knowing(i)).append(' ').append(b.throat(i)).append(' ');
         }
         noted(b, seen);
+    }
+
+    /** What is asked starts from how it is, so that it differs if that does. */
+    private static void asked(SpokenBite b, StringBuilder seen) {
+        for (int n = 0; n <= 12; n++) {
+            seen.append(b.ahead(0, n, 1)).append(' ').append(b.ahead(1, n, 0)).append(' ').append(b.loudest(n, 0)).append(' ');
+            seen.append(b.rests(0, 1, n, 0)).append(' ').append(b.leftOut(n, 2)).append(' ').append(b.crumbs(n, 1)).append(' ');
+            seen.append(b.bestRow(4, n)).append(' ').append(b.hush(4, n)).append(' ').append(b.said(n)).append(' ');
+            seen.append(b.hiccups(2, n, 50, 1)).append(' ').append(b.look(n, 0)).append(' ').append(b.believed(n)).append(' ');
+        }
+        seen.append(b.quiet()).append(' ').append(b.dropped(0)).append(' ');
     }
 
     /** NOTES can be seen by what fits them alone. */

@@ -832,11 +832,6 @@ public final class SpokenBite {
             }
         }
 
-        /** Then nothing can be said any more. */
-        boolean isEmpty() {
-            return table == 0 && gullet == 0;
-        }
-
         int knownBySitting() {
             int many = 0;
             for (int guest = 0; guest < MOST_GUESTS; guest++) {
@@ -855,6 +850,8 @@ public final class SpokenBite {
         int speaking;
         int saying;
         int loudness;
+        /** Behind a MINUTE: would each further one be as that was? */
+        private boolean still;
 
         void lay(Dinner ofDishes, Rule inForce) {
             dinner = ofDishes;
@@ -862,7 +859,15 @@ public final class SpokenBite {
         }
 
         void pass(Evening evening) {
-            passEating(evening, evening.offered == NONE ? choice(evening) : evening.offered);
+            boolean wasEmpty = evening.gullet == 0;
+            int sat = evening.sitting;
+            int dish = evening.offered == NONE ? choice(evening) : evening.offered;
+            passEating(evening, dish);
+            still = wasEmpty && dish == NONE && sat == evening.sitting && !waitsForMinute(evening);
+        }
+
+        private boolean waitsForMinute(Evening evening) {
+            return evening.table != 0 && rule != null && rule.asksMinute;
         }
 
         /** A MINUTE in which he eats a DISH that is on the table, or NONE. */
@@ -878,13 +883,13 @@ public final class SpokenBite {
             evening.minute++;
         }
 
-        /** Once a MINUTE has passed and nothing can be said any more, nobody learns anything or LEAVES. */
+        /** All but the number of its MINUTE is then as n MINUTES later. */
         void passSome(Evening evening, int minutes) {
             for (int i = 0; i < minutes; i++) {
-                if (i > 0 && evening.isEmpty()) {
+                pass(evening);
+                if (still) {
                     return;
                 }
-                pass(evening);
             }
         }
 
@@ -971,8 +976,9 @@ public final class SpokenBite {
         /** Goes on with an evening that went on from the begin: is it, from its MINUTE on, as the NOTES say? */
         boolean fits(Evening evening, Notes notes) {
             int last = notes.last();
+            still = false;
             for (int i = 0; i <= LAST_NOTED; i++) {
-                if (evening.isEmpty() || evening.minute >= last) {
+                if (still || evening.minute >= last) {
                     return notes.hold(evening, evening.minute, last);
                 }
                 if (!notes.hold(evening, evening.minute, evening.minute)) {
@@ -1022,15 +1028,18 @@ public final class SpokenBite {
         /** Each step stems from a byte of its own, so there are no more than bytes. */
         private final int[] code = new int[MOST_BYTES];
         private int steps;
+        boolean asksMinute;
 
         void clear() {
             steps = 0;
+            asksMinute = false;
         }
 
         void put(int step) {
             if (steps >= 0 && steps < code.length) {
                 code[steps] = step;
                 steps++;
+                asksMinute = asksMinute || step == MINUTE;
             }
         }
 
