@@ -530,6 +530,11 @@ final class AskEdgeTest {
         offered.offer(1);
         due("nor be OFFERED", offered.leftOut(1, 2), 1);
         due("they stay", offered.leftOut(1, 0), 1);
+        SpokenBite next = at("dinner 1;dish 5 2;dish 5 1;guest 0;clash 0 1");
+        next.tell(0, 0);
+        next.offer(1);
+        due("nor be OFFERED", next.leftOut(1, 2), 1);
+        due("but another one is eaten then", next.leftOut(1, 1), 2);
         SpokenBite other = at("dinner 1;dish 5 0;dish 5 1;dish 5 2;guest 0;clash 0 2");
         other.tell(0, 2);
         other.offer(1);

@@ -159,8 +159,8 @@ final class KeepEdgeTest {
     /** All of a NOTE: which MINUTE, who, what, and whether they KNEW it. */
     private static void backBringsEachNote() {
         // DISH 1 is heard in MINUTE 1 by GUEST 1 alone
-        int[][] notes = {{1, 1, 3, 0}, {2, 1, 3, 1}, {60, 0, 3, 0}, {60, 1, 4, 0}};
-        int[][] others = {{2, 1, 3, 0}, {1, 1, 3, 1}, {60, 1, 3, 0}, {60, 1, 3, 0}};
+        int[][] notes = {{1, 1, 3, 0}, {2, 1, 3, 1}, {60, 0, 3, 0}, {60, 1, 4, 0}, {60, 1, 3, 1}};
+        int[][] others = {{2, 1, 3, 0}, {1, 1, 3, 1}, {60, 1, 3, 0}, {60, 1, 3, 0}, {60, 1, 3, 0}};
         for (int i = 0; i < notes.length; i++) {
             for (int bad = 0; bad < 2; bad++) {
                 SpokenBite b = new SpokenBite();
