@@ -1,7 +1,14 @@
 import java.util.Random;
 
-/** Long runs of drawn calls, each answered by SpokenBite and by PlainBite; all promises at once, and how they mix. */
+/**
+ * Runs of drawn calls, each answered by SpokenBite and by PlainBite; all promises at once, and how they mix. Each run has
+ * as many calls as an object may be used for; the last of them look at all that can be seen.
+ */
 final class ModelTest {
+    private static final int PROMISED = 512;
+    /** More than the calls of a DINNER and two RULES of 400 bytes, fed anew. */
+    private static final int SET_UP = 80;
+    private static final int SEEN = 75;
     private static final String[] WORDS = {"dish", "loud", "says", "known", "clashes", "left", "throat", "top", "sitting", "minute"};
     private static final String[] STRANGE = {"eat", "if", "and", "or", "not", "[", "]", ";", "+", "-", "*", "/", "%", "<", "<=", "=",
         ">=", ">", "0", "7", "8", "123456", "99999", "dinner", "dish", "guest", "clash", "x", "A", "\u0000", "\u00e9", " ", "dishes", "21"};
@@ -181,12 +188,41 @@ final class ModelTest {
 
     private void run(long seed) {
         log.append("seed ").append(seed).append('\n');
-        while (calls < 470 && !apart) {
-            if (calls < 30 || chance(1)) {
+        int lookAt = chance(50) ? PROMISED - SEEN : draw(PROMISED - 2 * SEEN);
+        boolean looked = false;
+        while (calls < PROMISED && !apart) {
+            if (!looked && calls >= lookAt && calls <= PROMISED - SEEN) {
+                seeAll();
+                looked = true;
+            } else if (calls < 30 || chance(1) && calls + SET_UP < (looked ? PROMISED : lookAt)) {
                 setUp();
             } else {
                 oneCall();
             }
+        }
+        due.due("all calls of a run were made", apart ? PROMISED : calls, PROMISED);
+        due.due("all was looked at", apart || looked ? 1 : 0, 1);
+    }
+
+    /** What other calls show behind those that came ahead. */
+    private void seeAll() {
+        for (int what = 0; what <= 13; what++) {
+            due("count " + what, bite.count(what), plain.count(what));
+        }
+        for (int what = 0; what <= 2; what++) {
+            for (int d = 0; d < 8; d++) {
+                due("dish " + d + " " + what, bite.dish(d, what), plain.dish(d, what));
+            }
+            for (int g = 0; g < 5; g++) {
+                due("guest " + g + " " + what, bite.guest(g, what), plain.guest(g, what));
+            }
+        }
+        for (int secret = 0; secret < 8; secret++) {
+            due("clashes " + secret, bite.clashes(secret), plain.clashes(secret));
+            due("knowing " + secret, bite.knowing(secret), plain.knowing(secret));
+        }
+        for (int place = 0; place < 6; place++) {
+            due("throat " + place, bite.throat(place), plain.throat(place));
         }
     }
 
